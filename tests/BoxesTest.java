@@ -14,6 +14,7 @@ public final class BoxesTest {
         under();
         shares();
         rows();
+        threeRows();
         C.end();
     }
 
@@ -149,6 +150,17 @@ public final class BoxesTest {
         n = twoLands("");
         n.boxes(0, 1);
         C.due("rate 0 without a line", n.owe(0, 0, 0), 0);
+        n = twoLands("rate 9 over 5 rate 1;share by worth;most 3;interest 9;land 0 pays 50;free if land = 1;");
+        C.due("a text of one line more", Check.readText(n, "rate 2;"), 1);
+        n.boxes(0, 20);
+        n.boxes(1000, 7);
+        n.claim(102, 1, 239, -1);
+        n.join(1, true);
+        C.due("nothing of the texts ahead", n.owe(0, 0, 0), 54);
+        C.due("nor of their interest", n.back(0, 2), 54);
+        C.due("nor of how they share", n.share(1, 0, 0), 18);
+        C.due("nor of their rate", Check.readText(n, "most 9;"), 2);
+        C.due("without a rate", n.owe(0, 0, 0), 0);
         n = twoLands("rate 9 over 5 rate 1;rate 8;");
         n.boxes(0, 10);
         C.due("no over of an earlier line", n.owe(0, 0, 0), 80);
@@ -159,7 +171,8 @@ public final class BoxesTest {
         BoxLeaves x = twoLands("rate 1;" + cond);
         x.boxes(20000, 10);
         x.boxes(21000, 20);
-        if (favoured) x.leave(2, 0, 0, 0, true);
+        x.leave(2, 100, 0, 0, favoured);
+        x.leave(1, 100, 0, 0, !favoured);
         C.due("owed " + cond + (favoured ? " (favoured)" : ""), x.owe(2, 0, 0), due);
     }
 
@@ -187,6 +200,16 @@ public final class BoxesTest {
         free("free if not (land = 0 or maker = 3);", 10, false);
         free("free if not land = 0 and land = 1;", 10, false);
         free("free if land = 1 and not (maker = 2 and (boxes < 20 or not month = 0));", 10, false);
+        free("free if land < 0;", 30, false);
+        free("free if land < 1;", 20, false);
+        free("free if month < 1;", 0, false);
+        free("free if maker < 3;", 0, false);
+        free("free if maker < 2;", 30, false);
+        free("free if land = 0 and favoured;", 30, false);
+        free("free if land = 0 and favoured;", 20, true);
+        free("free if land = 0 or favoured and land = 0;", 20, true);
+        free("free if land = 1 and (land = 1 or favoured);", 10, true);
+        free("free if land = 1 and not (favoured and land = 0 or favoured and maker = 3);", 10, true);
         free("free if land = 0;free if maker = 4;", 20, false);
         free("free if maker = 4;free if land = 0;", 20, false);
         free("free if land = 1;free if land = 0;", 0, false);
@@ -247,6 +270,7 @@ public final class BoxesTest {
         C.due("paid 17", x.paid(5, 239, 0), -2);
         C.due("paid 17, wrong", x.paid(6, 239, 0), -1);
         C.due("times paid", x.many(8), 16);
+        C.due("back with all told", x.back(0, 239), 0);
 
         BoxLeaves z = twoLands("rate 1;");
         z.months(2);
@@ -288,6 +312,8 @@ public final class BoxesTest {
         C.due("drawn 12", x.drawn(50000, 0, 0), -2);
         C.due("drawn 12, wrong", x.drawn(50000, 1, 0), -1);
         C.due("draws", x.many(9), 12);
+        C.due("under with all draws told", x.under(1, 0), 9999);
+        C.due("under of drawn from 0", x.under(5, 0), 0);
     }
 
     /** OWNER 1: three claims, two of one kin, worth 9; OWNER 3: two without kin, worth 4; OWNER 5: one, not needed; OWNER 6: one, not in. */
@@ -348,9 +374,43 @@ public final class BoxesTest {
         y.boxes(0, 17);
         int[] due = {3, 3, 0, 3, 2, 2, 2, 2};
         for (int o = 0; o < 8; o++) C.due("what is left over: owner " + o, y.share(o, 0, 0), due[o]);
+        BoxLeaves q = new BoxLeaves();
+        q.must(1);
+        q.claim(1, 1, 239, -1);
+        q.join(0, true);
+        Check.readText(q, "rate 1;");
+        q.boxes(0, 9);
+        C.due("without rows, one weight of 1", q.judge(0), 1);
+        C.due("all of it", q.share(0, 0, 0), 9);
+        C.due("one row", q.prove(0), 1);
+        C.due("it is right", q.judge(0), 0);
         BoxLeaves z = new BoxLeaves();
         C.due("nobody has a weight", z.share(0, 0, 0), 0);
         C.due("no rows", z.prove(0), 0);
+    }
+
+    private static void threeRows() {
+        BoxLeaves x = new BoxLeaves();
+        x.must(1);
+        for (int o = 0; o < 3; o++) {
+            x.claim(o * 100 + 1, 1, 239, -1);
+            x.join(o, true);
+        }
+        Check.readText(x, "rate 1;");
+        x.boxes(0, 30);
+        C.due("three rows", x.prove(0), 3);
+        C.due("weights of 1", x.judge(0), 0);
+        x.alterRow(0, 1, 11);
+        C.due("all together aren't the sum", x.judge(0), 3);
+        x.alterRow(0, 1, 10);
+        x.alterRow(1, 0, 0);
+        C.due("the same owner twice", x.judge(0), 2);
+        x.alterRow(1, 0, 2);
+        x.alterRow(2, 0, 1);
+        C.due("one below the one ahead", x.judge(0), 3);
+        x.alterRow(2, 1, 0);
+        x.alterRow(1, 1, Integer.MAX_VALUE);
+        C.due("far too much", x.judge(0), 2);
     }
 
     private static void rows() {
@@ -390,8 +450,13 @@ public final class BoxesTest {
         C.due("what it was", x.alterRow(0, 0, 1), Integer.MIN_VALUE);
         C.due("the same owner", x.alterRow(1, 0, 1), 3);
         C.due("isn't above", x.judge(0), 2);
+        x.prove(0);
+        x.alterRow(0, 0, 5);
+        x.alterRow(0, 1, 0);
+        C.due("nothing for an owner without a weight", x.judge(0), 1);
         x.alterRow(0, 0, 3);
         x.alterRow(0, 1, 4);
+        x.alterRow(1, 0, 1);
         x.alterRow(1, 1, 6);
         C.due("not by numbers", x.judge(0), 2);
         x.prove(0);

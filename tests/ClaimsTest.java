@@ -50,10 +50,11 @@ public final class ClaimsTest {
         BoxLeaves x = new BoxLeaves();
         int[][] bad = {
             {-1, 1, 0, -1}, {0, 1, 0, -1}, {100, 1, 0, -1}, {801, 1, 0, -1}, {41, 1, 0, -1}, {1000001, 1, 0, -1}, {Integer.MIN_VALUE, 1, 0, -1},
-            {-99, 1, 0, -1}, {1, 0, 0, -1}, {1, -1, 0, -1}, {1, 4096, 0, -1}, {1, 1, -1, -1}, {1, 1, 240, -1}, {1, 1, 999, -1}, {1, 1, 240240, -1},
+            {-99, 1, 0, -1}, {1, 0, 0, -1}, {1, -1, 0, -1}, {1, 4096, 0, -1}, {1, 1, -1, -1}, {1, 1, 240, -1}, {1, 1, 1240, -1}, {1, 1, 239999, -1}, {1, 1, 999, -1}, {1, 1, 240240, -1},
             {1, 1, 5004, -1}, {1, 1, 239238, -1}, {1, 1, Integer.MIN_VALUE, -1}, {1, 1, Integer.MAX_VALUE, -1}, {1, 1, 0, -2}, {1, 1, 0, 8}};
         for (int[] b : bad) C.due("claim(" + b[0] + ", " + b[1] + ", " + b[2] + ", " + b[3] + ")", x.claim(b[0], b[1], b[2], b[3]), -1);
         C.due("claims behind refusals", x.many(1), 0);
+        C.due("steps of a span above 1000", x.claim(1, 1, 1001001, 0), -1);
         C.due("claim, the greatest", x.claim(739, 4095, 239239, 7), 0);
         C.due("claim, the least", x.claim(1, 1, 0, -1), 1);
         for (int i = 2; i < 16; i++) C.due("claim " + i, x.claim(1, 1, 239, 0), i);
@@ -111,7 +112,9 @@ public final class ClaimsTest {
         C.due("join(-1)", x.join(-1, true), -1);
         C.due("join(8)", x.join(8, true), -1);
         C.due("join(7)", x.join(7, true), 0);
-        C.due("join(0)", x.join(0, false), 0);
+        C.due("join(0)", x.join(0, true), 0);
+        C.due("members with 0 and 7", x.members(0), 129);
+        C.due("join(0)", x.join(0, false), 1);
         C.due("join(7) again", x.join(7, true), 1);
         x.months(10);
         C.due("out", x.join(7, false), 1);
@@ -124,7 +127,7 @@ public final class ClaimsTest {
         C.due("members(239)", x.members(239), 8);
         C.due("members(-1)", x.members(-1), -1);
         C.due("members(240)", x.members(240), -1);
-        for (int i = 7; i < 24; i++) C.due("join word " + i, x.join(3, true), 1);
+        for (int i = 8; i < 24; i++) C.due("join word " + i, x.join(3, true), 1);
         C.due("join word 24", x.join(3, false), -2);
         C.due("join word 24 of none", x.join(8, false), -1);
         C.due("behind FULL", x.members(10), 8);

@@ -44,8 +44,10 @@ public final class HostTest {
         C.due("item 40", x.item(3, 2, 40), -12);
         C.due("item 39", x.item(3, 2, 39), -13);
         C.due("item 38", x.item(3, 2, 38), 0);
+        x.put(3, 0, 5);
         C.due("made anew", x.sheet(3, 2, 40), 1);
-        C.due("all 0", x.item(3, 2, 39), 0);
+        C.due("all 0, the first", x.item(3, 2, 0), 0);
+        C.due("all 0, the last", x.item(3, 2, 39), 0);
         C.due("refused", x.sheet(3, 2, 41), -1);
         C.due("missing", x.sheet(3, -1, 0), 1);
         C.due("it is missing", x.item(3, 2, 0), -11);
@@ -75,6 +77,10 @@ public final class HostTest {
         C.due("no such sheet", x.comes(-1, 0, 1), -1);
         C.due("missing", x.comes(2, 0, 0), -11);
         C.due("ints", x.comes(1, 99, 0), -13);
+        x.sheet(3, 0, 10);
+        C.due("bytes", x.comes(3, 0, 1), -13);
+        x.sheet(3, 1, 10);
+        C.due("shorts", x.comes(3, 0, 1), -13);
         C.due("none from anywhere", x.comes(0, 99, 0), 0);
         C.due("place -1", x.comes(0, -1, 1), -12);
         C.due("place 10", x.comes(0, 10, 1), -12);
@@ -128,6 +134,10 @@ public final class HostTest {
         C.due("still there", x.taken(0, 0), 1);
         C.due("nothing, every n", x.shelf(0, 4, -77), 1);
         C.due("nothing", x.taken(0, 0), -11);
+        C.due("boxes 0", x.shelf(3, 1, 0), 1);
+        C.due("their number", x.taken(3, 4), 0);
+        C.due("leave 0", x.shelf(3, 2, 0), 1);
+        C.due("its number", x.taken(3, 5), 0);
         C.due("boxes", x.shelf(3, 1, 1), 1);
         C.due("a box is a claim", x.taken(3, 0), 1);
         C.due("a box", x.taken(3, 4), 1);
@@ -157,6 +167,11 @@ public final class HostTest {
         C.due("the row", x.shelf(0, 3, 2), 1);
         C.due("its items", x.taken(0, 11), 7);
         for (int as : new int[] {0, 6, 10, 12, 13}) C.due("taken for " + as, x.taken(0, as), -13);
+        for (int sort = 0; sort < 4; sort++) {
+            x.sheet(3, sort, sort + 4);
+            x.shelf(3, 3, 3);
+            for (int as = 10; as < 14; as++) C.due("a row of sort " + sort + " taken for " + as, x.taken(3, as), as == sort + 10 ? sort + 4 : -13);
+        }
         C.due("a row does not act", x.act(0, 0, 5), 0);
         x.sheet(2, -1, 0);
         C.due("missing now", x.taken(0, 11), -11);
@@ -235,6 +250,12 @@ public final class HostTest {
         acts(x, 0, 1, 4, 68, 11, 10);
         acts(x, 0, 2, 60, 2, 12);
         acts(x, 0, 3, 4, (68 ^ 1) + 1, 50, 13, 11, 10, 12);
+        x.boxes(0, 4);
+        x.shelf(0, 1, 2);
+        acts(x, 0, 3, 4, (16 ^ 2) + 2, 50, 13, 11, 10, 12);
+        x.boxes(0, 4);
+        x.shelf(0, 1, 3);
+        acts(x, 0, 3, 4, (16 ^ 3) + 5, 50, 13, 11, 10, 12);
         x.shelf(1, 2, 0);
         acts(x, 1, 0, 4, 54 ^ 9, 60, 10);
         acts(x, 1, 1, 4, (54 ^ 9) * 2, 11, 60, 10);

@@ -93,6 +93,16 @@ public final class MustsTest {
         y.claim(1, 512, 0, -1);
         C.due("the first of all", y.round(4), 0);
 
+        BoxLeaves q = new BoxLeaves();
+        q.claim(1, 3, 0, -1);
+        q.must(1);
+        q.way(0, 2);
+        q.must(2);
+        q.must(4);
+        C.due("the musts behind have to do their steps", q.round(0), 1);
+        q.must(1);
+        C.due("then it is needed", q.round(0), -3);
+
         BoxLeaves z = new BoxLeaves();
         z.claim(1, 1, 0, -1);
         for (int m = 0; m < 6; m++) {

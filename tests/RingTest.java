@@ -88,7 +88,7 @@ public final class RingTest {
         byHand();
     }
 
-    /** Small numbers of three owners. NONE is not met: who would come gets no less as others come too, so that some set always holds. */
+    /** Small numbers of three owners. NONE and two widest sets are not met: nobody gets less as others come, so that with two sets that hold a wider one does. */
     private static void byHand() {
         int single = 0;
         for (int a = 0; a < 216; a++) {
@@ -168,6 +168,8 @@ public final class RingTest {
         C.due("way 1 of both", x.holes(0, 0, false), 0b1000);
         x.machine(0, 23);
         C.due("digits of no way: ways 0", x.holes(0, 0, false), 0b0001);
+        x.machine(0, 2);
+        C.due("a digit that is just above: way 0", x.holes(0, 0, false), 0b0001);
         x.machine(0, 333310);
         C.due("digits of no must", x.holes(0, 0, false), 0b0011);
         C.due("another maker's machine", x.holes(10000, 0, false), 0b0001);

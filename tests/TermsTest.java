@@ -35,7 +35,7 @@ public final class TermsTest {
         String[] texts = {
             "", "   ", "share by heads;", " share  by   kin ; ", "share by worth;most 0;", "most5;most 007;", "land0pays999;land 3 pays 0;",
             "rate 0;", "rate 1 over 0 rate 2;", "rate 5 over 1 rate 4 over 2 rate 3 over 999 rate 0;", "rate1over2rate3;",
-            "interest 999;", "free if favoured;", "free if not not not favoured;", "free if boxes<3;", "free if(boxes<3);",
+            "interest 999;interest 0;", "free if favoured;", "free if not not not favoured;", "free if boxes<3;", "free if(boxes<3);",
             "free if maker=0or land>1and month<9;", "free if ((((favoured))));", "free if (favoured) and (favoured) or not(favoured);",
             "free if (((favoured) or favoured) and (((favoured))));"};
         for (String text : texts) {
@@ -56,6 +56,14 @@ public final class TermsTest {
         fault("  ;", 2);
         fault("shares by heads;", 0);
         fault("Share by heads;", 0);
+        fault("whare by heads;", 0);
+        fault("mostz 1;", 0);
+        fault("mosta 1;", 0);
+        fault("zmost 1;", 0);
+        fault("most{1;", 4);
+        fault("most`1;", 4);
+        fault("most/1;", 4);
+        fault("most:1;", 4);
         fault("share heads;", 6);
         fault("share by luck;", 9);
         fault("share by headsx;", 9);
