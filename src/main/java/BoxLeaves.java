@@ -240,8 +240,7 @@ public final class BoxLeaves {
 
     public int shelf(int shelf, int what, int n) {
         if (!isShelf(shelf) || !canHold(what, n)) return BAD;
-        boolean isMissing = what == HOLDS_ROW && sheets.sortOf(n) < 0;
-        shelfWhat[shelf] = isMissing ? HOLDS_NOTHING : what;
+        shelfWhat[shelf] = what;
         shelfNumber[shelf] = n;
         return 1;
     }
@@ -416,8 +415,6 @@ public final class BoxLeaves {
             first[claims] = span / 1000;
             last[claims] = span % 1000;
             kin[claims] = itsKin;
-            swornBits &= ~(1 << claims);
-            lookedBits &= ~(1 << claims);
             return claims++;
         }
 
