@@ -97,12 +97,35 @@ public final class EdgesHostTest {
 
     private static void shelvesOfRows() {
         new Run("the row of SHEET n (3; nothing, if missing)").is(1, "shelf(0, 3, 2)").is(NOTHING, "taken(0, 10)", "taken(0, 0)").so("sheet(2, 1, 40)", "shelf(0, 3, 2)").is(40, "taken(0, 11)").is(OTHER, "taken(0, 10)", "taken(0, 12)", "taken(0, 0)", "taken(0, 6)");
+        missingRows();
         new Run("a row that is not there any more is nothing").so("sheet(2, 1, 7)", "shelf(0, 3, 2)").is(7, "taken(0, 11)").so("sheet(2, -1, 0)").is(NOTHING, "taken(0, 11)", "taken(0, 0)").is(0, "act(0, 0, 1)", "many(13)");
         new Run("a row of none").so("sheet(0, 3, 0)", "shelf(1, 3, 0)").is(0, "taken(1, 13)").is(OTHER, "taken(1, 12)");
         for (int sort = 0; sort < 4; sort++) {
             Run run = new Run("taken: for a row of sort as - 10: how many items").so("sheet(3, " + sort + ", 9)", "shelf(3, 3, 3)");
             for (int as = 0; as < 14; as++) run.is(as > 6 && as < 10 ? BAD : as == sort + 10 ? 9 : OTHER, "taken(3, " + as + ")");
         }
+    }
+
+    /** A SHELF that was given the row of a missing SHEET holds nothing, whatever that SHEET becomes. */
+    private static void missingRows() {
+        String told = "the row of SHEET n (3; nothing, if missing): sheet() puts nothing on a SHELF";
+        for (int sheet = 0; sheet < 4; sheet++) {
+            for (int sort = 0; sort < 4; sort++) {
+                Run run = new Run(told).is(1, "shelf(3, 3, " + sheet + ")", "sheet(" + sheet + ", " + sort + ", " + 10 * sort + ")");
+                for (int as = 0; as < 14; as++) run.is(as > 6 && as < 10 ? BAD : NOTHING, "taken(3, " + as + ")");
+                for (int act = 0; act < 4; act++) run.is(0, "act(3, " + act + ", 5)", "many(13)");
+            }
+        }
+        new Run(told + ", by put() neither").so("shelf(0, 3, 2)", "sheet(2, 2, 3)", "put(2, 0, 5)").is(NOTHING, "taken(0, 12)").so("sheet(2, 1, 7)").is(NOTHING, "taken(0, 11)", "taken(0, 12)").so("sheet(2, -1, 0)", "sheet(2, 3, 1)").is(NOTHING, "taken(0, 13)");
+        new Run("nothing, if missing: the row, from the next shelf() on").so("shelf(0, 3, 2)", "sheet(2, 1, 7)").is(NOTHING, "taken(0, 11)").is(1, "shelf(1, 3, 2)").is(7, "taken(1, 11)").is(NOTHING, "taken(0, 11)").is(1, "shelf(0, 3, 2)").is(7, "taken(0, 11)", "taken(1, 11)");
+        new Run("nothing, if missing: made missing ahead of shelf()").so("sheet(2, 1, 7)", "sheet(2, -1, 0)").is(1, "shelf(0, 3, 2)").is(NOTHING, "taken(0, 11)").so("sheet(2, 1, 7)").is(NOTHING, "taken(0, 11)");
+        new Run("nothing, if missing: not of another SHEET").so("sheet(1, 0, 5)", "shelf(1, 3, 1)", "shelf(2, 3, 2)", "sheet(2, 0, 6)").is(5, "taken(1, 10)").is(NOTHING, "taken(2, 10)").is(1, "shelf(2, 3, 1)").is(5, "taken(2, 10)");
+        new Run("nothing, if missing: a refused sheet() leaves it so").so("shelf(0, 3, 2)").is(BAD, "sheet(2, 0, 41)").is(BELOW, "sheet(2, 0, -1)").is(1, "shelf(0, 3, 2)").is(NOTHING, "taken(0, 10)").so("sheet(2, 0, 4)").is(NOTHING, "taken(0, 10)");
+        for (String ahead : new String[] {"shelf(0, 0, 1)", "shelf(0, 1, 1)", "shelf(0, 2, 1)"}) {
+            things("nothing, if missing: what stood on the SHELF is gone").so(ahead).is(1, "taken(0, 0)", "shelf(0, 3, 2)").is(NOTHING, "taken(0, 0)").is(0, "act(0, 0, 5)").so("sheet(2, 1, 7)").is(NOTHING, "taken(0, 0)", "taken(0, 11)").is(1, ahead, "taken(0, 0)");
+        }
+        new Run("nothing, if missing: a row that stood on the SHELF is gone").so("sheet(1, 0, 5)", "shelf(0, 3, 1)").is(5, "taken(0, 10)").is(1, "shelf(0, 3, 2)").is(NOTHING, "taken(0, 10)").so("sheet(2, 0, 6)").is(NOTHING, "taken(0, 10)");
+        new Run("nothing, if missing: not SHEETS, SHELVES is kept").so("shelf(0, 3, 2)", "keep()", "sheet(2, 0, 6)", "again()").is(NOTHING, "taken(0, 10)").so("shelf(0, 3, 2)", "again()").is(6, "taken(0, 10)");
     }
 
     private static void taken() {

@@ -163,7 +163,7 @@ public final class HostTest {
         C.due("a missing one", x.shelf(0, 3, 2), 1);
         C.due("is nothing", x.taken(0, 10), -11);
         x.sheet(2, 1, 7);
-        C.due("the row that it has now", x.taken(0, 11), 7);
+        C.due("it stays nothing", x.taken(0, 11), -11);
         C.due("the row", x.shelf(0, 3, 2), 1);
         C.due("its items", x.taken(0, 11), 7);
         for (int as : new int[] {0, 6, 10, 12, 13}) C.due("taken for " + as, x.taken(0, as), -13);

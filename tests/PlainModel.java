@@ -728,7 +728,7 @@ final class PlainModel {
 
     int shelf(int i, int what, int n) {
         if (!in(i, 0, 3) || !in(what, 0, 4) || what < 4 && !isThing(what, n)) return BAD;
-        shelfWhat[i] = what;
+        shelfWhat[i] = what == 3 && sheets[n] == null ? 4 : what;
         shelfN[i] = n;
         return 1;
     }

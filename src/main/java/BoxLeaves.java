@@ -240,7 +240,9 @@ public final class BoxLeaves {
 
     public int shelf(int shelf, int what, int n) {
         if (!isShelf(shelf) || !canHold(what, n)) return BAD;
-        shelfWhat[shelf] = what;
+        // a SHEET that is missing has no row to give, whatever it becomes later
+        boolean isMissing = what == HOLDS_ROW && sheets.sortOf(n) < 0;
+        shelfWhat[shelf] = isMissing ? HOLDS_NOTHING : what;
         shelfNumber[shelf] = n;
         return 1;
     }
